@@ -483,7 +483,7 @@ public final class ReceiverTest {
         y.arrive(0, 2, 0, 0);
         check.is("both roots are released", 2, y.receiver(0, RELEASED));
         check.is("the second takes nothing back", 69, y.receiver(0, LATEST));
-        check.is("the first key of chain 1 is its root", 64, y.key(64, 0) == y.releasedByte(0, 1, 0) ? 64 : 0);
+        check.is("the second has the root of chain 1 too", y.key(64, 0), y.releasedByte(0, 1, 0));
     }
 
     private static void unknownChainIsHeld() {
