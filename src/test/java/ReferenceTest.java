@@ -1,6 +1,10 @@
 import java.util.Random;
 
-/** Runs of 512 calls, drawn by fixed seeds, on the program and on the model of the document. */
+/**
+ * Runs of some 470 calls, drawn by fixed seeds, on the program and on the model of the document; then
+ * all packets and releases are read. With these an object gets more calls than the 512 for which the
+ * document promises answers: the program does not count calls, so they tell of the state before.
+ */
 public final class ReferenceTest {
     private static final int RUNS = 300;
     private static final int CALLS = 512;
