@@ -10,10 +10,23 @@ final class Check {
 
     private int looked = 0;
     private int wrong = 0;
+    private String place = "";
+
+    /** What is told from now on begins with this. */
+    void at(String where) {
+        place = where;
+    }
 
     void is(String what, long due, long got) {
         looked++;
         if (got != due) {
+            tell(what + " answered " + got + ", due is " + due);
+        }
+    }
+
+    void same(String what, String due, String got) {
+        looked++;
+        if (!got.equals(due)) {
             tell(what + " answered " + got + ", due is " + due);
         }
     }
@@ -42,7 +55,7 @@ final class Check {
     void tell(String line) {
         wrong++;
         if (wrong <= 50) {
-            System.out.println(line);
+            System.out.println(place + line);
         }
     }
 
