@@ -48,6 +48,8 @@ final class Check {
         } catch (RuntimeException e) {
             if (e.getClass() != due) {
                 tell(what + " threw " + e + ", due is " + due.getSimpleName());
+            } else if (!e.getStackTrace()[0].getClassName().startsWith("BulletinOffice")) {
+                tell(what + " was refused by the library, due is a throw statement of the program");
             }
         }
     }

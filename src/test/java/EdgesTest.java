@@ -10,6 +10,7 @@ public final class EdgesTest {
         Check check = new Check();
         Sentences doc = new Sentences(check, Path.of("../shared/DOC.md"));
         new TermsEdges(check, doc).all();
+        new ArrivalEdges(check, doc).all();
         new SenderEdges(check, doc).all();
         new ReceiverEdges(check, doc).all();
         doc.tellUntested();

@@ -61,6 +61,19 @@ enum Look {
             }
         }
     },
+    /** The last key of each chain, which key() does not tell when there is a chain behind. */
+    LAST_KEYS {
+        @Override
+        void ask(Office x, Answers to) {
+            for (int g = 64; g <= 512; g += 64) {
+                int n = 10 * (g - 1) - x.count(0);
+                to.add("tick to interval " + g, () -> x.tick(n));
+                to.add("send in interval " + g, () -> x.send(0));
+                int newest = x.count(3) - 1;
+                to.add("its code", () -> x.packet(newest, 6));
+            }
+        }
+    },
     /** What was released. */
     RELEASED {
         @Override

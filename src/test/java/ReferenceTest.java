@@ -1,13 +1,11 @@
 import java.util.Random;
 
 /**
- * Runs of some 470 calls, drawn by fixed seeds, on the program and on the model of the document; then
- * all packets and releases are read. With these an object gets more calls than the 512 for which the
- * document promises answers: the program does not count calls, so they tell of the state before.
+ * Runs of 512 calls, drawn by fixed seeds, on the program and on the model of the document: the first
+ * ones use the office, the last ones read receivers, releases and packets.
  */
 public final class ReferenceTest {
-    private static final int RUNS = 300;
-    private static final int CALLS = 512;
+    private static final int RUNS = 600;
 
     private static final Check check = new Check();
     private static final int[] outcomes = new int[6];
@@ -17,7 +15,7 @@ public final class ReferenceTest {
 
     private final Random random;
     private final int run;
-    private final BulletinOffice office;
+    private final Office office;
     private final OfficeModel model;
     private final int intervalTicks;
     /** How many receivers a run uses: few, so that much happens at each. */
@@ -34,7 +32,7 @@ public final class ReferenceTest {
         intervalTicks = Math.floorMod(ticks, 1000) + 1;
         receivers = 1 + random.nextInt(4);
         longSteps = random.nextInt(3) == 0;
-        office = new BulletinOffice(lag, ticks, error);
+        office = new Office(lag, ticks, error);
         model = new OfficeModel(lag, ticks, error);
     }
 
@@ -65,7 +63,8 @@ public final class ReferenceTest {
         for (int r = 0; r < receivers; r++) {
             join(r);
         }
-        for (int i = begin + receivers + 1; i < CALLS - 40; i++) {
+        int toRead = 60 + random.nextInt(200);
+        while (office.left() > toRead) {
             step();
         }
         for (int r = 0; r < receivers; r++) {
@@ -78,11 +77,14 @@ public final class ReferenceTest {
             wrongCodesInAll += model.receiver(r, 6);
             for (int k = 0; k < Math.min(100, model.receiver(r, 7)); k++) {
                 rootsInAll += model.released(r, k, 1);
-                lookAtReleased(r, k);
             }
         }
-        for (int p = 0; p < model.count(3); p++) {
-            lookAtPacket(p);
+        while (office.left() > 0) {
+            if (random.nextBoolean()) {
+                lookAtReleased(random.nextInt(receivers));
+            } else {
+                lookAtPacket();
+            }
         }
     }
 
@@ -90,22 +92,22 @@ public final class ReferenceTest {
         return i * 0x01234567;
     }
 
-    private void lookAtReleased(int r, int k) {
-        for (int what = 0; what < 3; what++) {
-            int w = what;
-            same("released", () -> office.released(r, k, w), () -> model.released(r, k, w));
-        }
-        for (int i = 0; i <= 32; i++) {
-            int b = i;
-            same("releasedByte", () -> office.releasedByte(r, k, b), () -> model.releasedByte(r, k, b));
+    /** One of the answers about a drawn release, most often of one that is there. */
+    private void lookAtReleased(int r) {
+        int k = random.nextInt(model.receiver(r, 7) + 2);
+        int i = random.nextInt(36) - 3;
+        if (i < 0) {
+            int what = i + 3;
+            same("released", () -> office.released(r, k, what), () -> model.released(r, k, what));
+        } else {
+            same("releasedByte", () -> office.releasedByte(r, k, i), () -> model.releasedByte(r, k, i));
         }
     }
 
-    private void lookAtPacket(int p) {
-        for (int i = 0; i <= 68; i++) {
-            int b = i;
-            same("packet", () -> office.packet(p, b), () -> model.packet(p, b));
-        }
+    private void lookAtPacket() {
+        int p = random.nextInt(model.count(3) + 1);
+        int i = random.nextInt(70);
+        same("packet", () -> office.packet(p, i), () -> model.packet(p, i));
     }
 
     private void join(int r) {

@@ -1,5 +1,3 @@
-import java.io.ByteArrayOutputStream;
-import java.nio.ByteBuffer;
 import java.util.Arrays;
 
 /** The boundary cases that promises 1 to 9 and 16 name: the sender's side. */
@@ -211,21 +209,10 @@ final class SenderEdges {
         });
     }
 
-    /** Fills the buffer; its bytes. */
-    private static byte[] fill(Office x, int seed) {
-        ByteBuffer buffer = ByteBuffer.allocate(32);
-        for (int i = 0; i < 8; i++) {
-            int word = seed * (i + 1) * 0x9e3779b1;
-            buffer.putInt(word);
-            x.load(i, word);
-        }
-        return buffer.array();
-    }
-
     private void digest() {
         doc.sentence(5, "Word i (0 .. 7) of the digest of the buffer's first n bytes", () -> {
             Office x = new Office(0, 0, 0);
-            byte[] buffer = fill(x, 12345);
+            byte[] buffer = Rows.fill(x, 12345);
             for (int n : new int[] {0, 1, 3, 4, 5, 31, 32}) {
                 byte[] due = Crypto.digest(Arrays.copyOf(buffer, n));
                 for (int i = 0; i < 8; i++) {
@@ -252,32 +239,16 @@ final class SenderEdges {
         });
     }
 
-    /** All bytes of a packet of an office of Scene's chains, and that none is behind them. */
-    private void packetIs(Office x, int p, int g, int kind, byte[] body, int lag) {
-        ByteArrayOutputStream row = new ByteArrayOutputStream();
-        row.writeBytes(ByteBuffer.allocate(4).putInt(g).array());
-        row.write(kind);
-        row.write(body.length);
-        row.writeBytes(body);
-        row.writeBytes(Crypto.code(row.toByteArray(), Scene.keyOf(g)));
-        row.writeBytes(g > lag ? Scene.keyOf(g - lag) : new byte[20]);
-        byte[] due = row.toByteArray();
-        for (int i = 0; i < due.length; i++) {
-            check.is("interval " + g + " byte " + i, due[i] & 255, x.packet(p, i));
-        }
-        check.fails("interval " + g + " behind its end", INDEX, () -> x.packet(p, due.length));
-    }
-
     private void send() {
         doc.sentence(6, "A bulletin of the buffer's first n bytes in the present interval", () -> {
             for (int g : new int[] {1, 2, 64, 65, 448, 449, 512}) {
                 Office x = Scene.office(8);
-                byte[] buffer = fill(x, g);
+                byte[] buffer = Rows.fill(x, g);
                 if (g > 1) {
                     x.tick(10 * g - 1);
                 }
                 for (int n : new int[] {0, 1, 31, 32}) {
-                    packetIs(x, x.send(n), g, 0, Arrays.copyOf(buffer, n), 2);
+                    Rows.packetIs(check, x, x.send(n), Rows.packet(g, 0, Arrays.copyOf(buffer, n), 2));
                 }
             }
         });
@@ -320,7 +291,7 @@ final class SenderEdges {
                     x.tick(10 * g - 1);
                 }
                 check.is("number", 0, x.root());
-                packetIs(x, 0, g, 1, Scene.rootOf((g - 1) / 64 + 1), 2);
+                Rows.packetIs(check, x, 0, Rows.packet(g, 1, Scene.rootOf((g - 1) / 64 + 1), 2));
                 check.is("the next number", 1, x.root());
             }
         });
@@ -335,8 +306,15 @@ final class SenderEdges {
             x.chain(1, 2, 3, 4, 5);
             check.answers("with the next chain", 1, () -> x.root());
         });
-        doc.sentence(7, "UnsupportedOperationException, when there are 200 packets", () ->
-                doc.refused("root", UNSUPPORTED, x -> x.root(), Scene.ALL_PACKETS));
+        doc.sentence(7, "UnsupportedOperationException, when there are 200 packets", () -> {
+            doc.refused("root", UNSUPPORTED, x -> x.root(), Scene.ALL_PACKETS);
+            Office x = Scene.office(2);
+            for (int p = 0; p < 199; p++) {
+                x.send(0);
+            }
+            check.answers("the 200th", 199, () -> x.root());
+            check.fails("the 201st", UNSUPPORTED, () -> x.root());
+        });
     }
 
     private void packet() {
