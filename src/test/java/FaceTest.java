@@ -36,6 +36,7 @@ public final class FaceTest {
 
     public static void main(String[] args) throws IOException {
         members();
+        ownMethods(BulletinOffice.class);
         classesInside();
         text();
         check.end("FaceTest");
@@ -72,11 +73,20 @@ public final class FaceTest {
         check.is("the constructor's parameters", 3, office.getConstructors()[0].getParameterCount());
     }
 
-    private static void classesInside() {
+    private static void ownMethods(Class<?> c) {
         Set<String> faceNames = new HashSet<>();
         for (String line : FACE) {
             faceNames.add(line.substring(line.indexOf(' ') + 1, line.indexOf('(')));
         }
+        for (Method m : c.getDeclaredMethods()) {
+            if (!Modifier.isPublic(m.getModifiers())) {
+                check.is(m + " bears a name of the face", 0, faceNames.contains(m.getName()) ? 1 : 0);
+                check.is(m + " has few parameters", 1, m.getParameterCount() <= 7 ? 1 : 0);
+            }
+        }
+    }
+
+    private static void classesInside() {
         Class<?>[] inside = BulletinOffice.class.getDeclaredClasses();
         check.is("not too many classes", 1, inside.length < 12 ? 1 : 0);
         for (Class<?> c : inside) {
@@ -84,10 +94,7 @@ public final class FaceTest {
                     c.getModifiers() & (Modifier.PUBLIC | Modifier.PROTECTED));
             check.is(c + " is static", Modifier.STATIC, c.getModifiers() & Modifier.STATIC);
             check.is(c + " has few fields", 1, fieldsOf(c) <= 20 ? 1 : 0);
-            for (Method m : c.getDeclaredMethods()) {
-                check.is(m + " bears a name of the face", 0, faceNames.contains(m.getName()) ? 1 : 0);
-                check.is(m + " has few parameters", 1, m.getParameterCount() <= 7 ? 1 : 0);
-            }
+            ownMethods(c);
         }
     }
 
